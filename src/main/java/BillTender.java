@@ -30,7 +30,6 @@ public final class BillTender {
     private static final int MOST_ACTS = 12;
     private static final int MOST_LINES = 8;
     private static final int MOST_DIGITS = 5;
-    private static final int FIGURES = 12;
 
     private static final int WHY_BOUNDS = 1;
     private static final int WHY_ROOM = 2;
@@ -407,7 +406,7 @@ public final class BillTender {
     }
 
     private int figureBy(int term, int v, int what) {
-        if (!book.termFits(term, v) || what < 0 || what >= FIGURES) {
+        if (!book.termFits(term, v)) {
             return NONE;
         }
         trial.copyFrom(book);
@@ -624,6 +623,17 @@ public final class BillTender {
 
     private static boolean isLots(int lots) {
         return lots >= 1 && lots <= MOST_LOTS;
+    }
+
+    /** The sum of a row's first numbers, of those only that have the key at their place. */
+    private static int sumWhere(int[] row, int[] keys, int key, int length) {
+        int sum = 0;
+        for (int i = 0; i < length && i < row.length && i < keys.length; i++) {
+            if (keys[i] == key) {
+                sum += row[i];
+            }
+        }
+        return sum;
     }
 
     private Sale standing() {
@@ -843,13 +853,7 @@ public final class BillTender {
         }
 
         private int lotsOf(int house) {
-            int sum = 0;
-            for (int i = 0; i < bids; i++) {
-                if (houses[i] == house) {
-                    sum += lots[i];
-                }
-            }
-            return sum;
+            return sumWhere(lots, houses, house, bids);
         }
 
         private int ownedBy(int owner) {
@@ -1136,13 +1140,7 @@ public final class BillTender {
         }
 
         private int soldTo(int house) {
-            int sum = 0;
-            for (int i = 0; i < inOrder; i++) {
-                if (book.houses[i] == house) {
-                    sum += sold[i];
-                }
-            }
-            return sum;
+            return sumWhere(sold, book.houses, house, inOrder);
         }
 
         private int soldUnder(int owner) {
@@ -1156,33 +1154,15 @@ public final class BillTender {
         }
 
         private int soldAtRate(int rate) {
-            int sum = 0;
-            for (int i = 0; i < inOrder; i++) {
-                if (book.rates[i] == rate) {
-                    sum += sold[i];
-                }
-            }
-            return sum;
+            return sumWhere(sold, book.rates, rate, inOrder);
         }
 
         private int admittedOf(int house) {
-            int sum = 0;
-            for (int i = 0; i < inOrder; i++) {
-                if (book.houses[i] == house) {
-                    sum += admitted[i];
-                }
-            }
-            return sum;
+            return sumWhere(admitted, book.houses, house, inOrder);
         }
 
         private int admittedAt(int rate) {
-            int sum = 0;
-            for (int i = 0; i < inOrder; i++) {
-                if (book.rates[i] == rate) {
-                    sum += admitted[i];
-                }
-            }
-            return sum;
+            return sumWhere(admitted, book.rates, rate, inOrder);
         }
 
         private int admittedUpTo(int rate) {

@@ -23,6 +23,8 @@ public final class AskedTest {
         upToAndRanked();
         fullAndCrowded();
         step();
+        oneLot();
+        thirty();
         Check.finish();
     }
 
@@ -119,6 +121,11 @@ public final class AskedTest {
         // A POOL of nothing leaves PLAIN ones without.
         BillTender v = Check.told("offer 4;limit 100;share 24;plain 0 lots 3;bid 1 5 lots 9;");
         row("17: no POOL", v, 5, 0, 4);
+        BillTender t = Check.told("offer 4;limit 100;share 24;plain 0 lots 1;bid 1 5 lots 9;");
+        row("17: no POOL for one LOT", t, 5, 0, 4);
+        // The LOT that is left goes to one at STOP, not to one beside it.
+        BillTender r = Check.told("offer 1;limit 100;share 0;bid 0 9 lots 1;bid 1 5 lots 1;bid 2 5 lots 1;");
+        row("17: one LOT for two", r, 5, 0, 1, 0);
         // PLAIN ones that are just the POOL are SOLD in full.
         BillTender u = Check.told("offer 10;limit 100;share 39;plain 0 lots 2;plain 1 lots 1;bid 1 5 lots 9;");
         row("17: just the POOL", u, 5, 2, 1, 7);
@@ -311,5 +318,63 @@ public final class AskedTest {
         BillTender zero = Check.told("bid 0 0 lots 1;");
         Check.due("31: YIELD 0", zero.step(0, 0), 0);
         Check.due("31: no BIDS", new BillTender().step(0, 0), -1);
+    }
+
+    private static void oneLot() {
+        BillTender x = Check.told("offer 1;limit 100;share 0;days 360;bid 0 9 lots 1;bid 3 7 lots 1;");
+        results("21: one LOT", x, 7, 7, 0, 1, 0, 0, 1, 2, 200, 1, 0, 0);
+        Check.due("23: one LOT", x.mean(3), 999_300L);
+        Check.due("24: one LOT", x.filled(1), 100);
+        Check.due("24: none of one LOT", x.filled(0), 0);
+        Check.due("25: one LOT", x.dearest(), 1);
+        Check.due("29: one LOT", x.full(), 1);
+        Check.due("30: one LOT", x.crowded(), 10000);
+    }
+
+    /** Thirty BIDS, each fifth PLAIN, all SOLD in full; then fewer of them, so that nothing of those that went may count. */
+    private static void thirty() {
+        for (int n = 30; n >= 0; n--) {
+            BillTender x = Check.told("offer 2000;limit 100;share 50;days 360;");
+            for (int i = 0; i < 30; i++) {
+                x.bid(i % 8, i % 5 == 0 ? -1 : 100, 1);
+            }
+            x.paid();
+            for (int i = 29; i >= n; i--) {
+                x.withdraw(i);
+            }
+            thirtyOrFewer(x, n);
+        }
+    }
+
+    private static void thirtyOrFewer(BillTender x, int n) {
+        int plain = (n + 4) / 5;
+        int price = n > plain ? 990_000 : 1_000_000;
+        Check.due("49: PLAIN of " + n, x.count(1), plain);
+        Check.due("49: HOUSES of " + n, x.count(7), Math.min(8, n));
+        Check.due("21: SOLD of " + n, x.result(3), n);
+        Check.due("21: SOLD to PLAIN of " + n, x.result(4), plain);
+        Check.due("21: AVERAGE of " + n, x.result(1), n > plain ? 100 : 0);
+        Check.due("21: at STOP of " + n, x.result(9), n - plain);
+        Check.due("22: PAY of " + n, x.paid(), (long) n * price);
+        Check.due("27: up to of " + n, x.upTo(999), n - plain);
+        Check.due("31: step of " + n, x.step(0, 3), n > plain ? n - plain : -1);
+        Check.due("31: step of " + n, x.step(0, 1), n > plain ? n - plain : -1);
+        Check.due("28: last of " + n, x.ranked(n - 1), n < 2 ? n - 1 : n - (n % 5 == 1 ? 2 : 1));
+        Check.due("25: dearest of " + n, x.dearest(), n == 0 ? -2 : 0);
+        for (int h = 0; h < 8; h++) {
+            int of = (n + 7 - h) / 8;
+            Check.due("19: LOTS of " + h + " of " + n, x.house(h, 2), of);
+            Check.due("19: ADMITTED of " + h + " of " + n, x.house(h, 3), of);
+            Check.due("19: SOLD of " + h + " of " + n, x.house(h, 4), of);
+            Check.due("20: PAYS of " + h + " of " + n, x.housePays(h), (long) of * price);
+            Check.due("42: SOLD of " + h + " at another of " + n, x.soldAllAt(h, 7), of);
+        }
+        // An OFFER of one LOT fewer than are bid with YIELDS isn't enough for these.
+        Check.due("34: byTerm of " + n, x.byTerm(0, n - plain > 1 ? n - plain - 1 : 1, 10), n - plain > 1 ? 1 : 0);
+        Check.due("29: full of " + n, x.full(), 0);
+        Check.due("11: merge of " + n, x.merge(7) >= 1, n >= 24);
+        if (n >= 24) {
+            x.undo();
+        }
     }
 }

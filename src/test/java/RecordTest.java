@@ -64,12 +64,28 @@ public final class RecordTest {
         for (int what = 0; what < 4; what++) {
             Check.due("46: no STOP " + what, none.records(what), plain[what]);
         }
+        eightLines();
         none.bid(0, 0, 1);
         none.settle();
         int[] zero = {2, 0, 0, 0};
         for (int what = 0; what < 4; what++) {
             Check.due("46: STOP 0 " + what, none.records(what), zero[what]);
         }
+    }
+
+    private static void eightLines() {
+        BillTender x = new BillTender();
+        for (int n = 0; n < 10; n++) {
+            x.bid(n % 8, 100 - n * n, 1 + n);
+            x.settle();
+        }
+        // The lines of n = 2 .. 9 are kept.
+        int[] want = {3 + 4 + 5 + 6 + 7 + 8 + 9 + 10, (800 - 284) / 8, 96, 19};
+        for (int what = 0; what < 4; what++) {
+            Check.due("46: eight lines " + what, x.records(what), want[what]);
+        }
+        Check.due("45: the oldest", x.record(7, 0), 96);
+        Check.due("47: the oldest", x.recordPaid(7), 3L * x.price(96));
     }
 
     private static void spell() {

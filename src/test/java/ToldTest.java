@@ -74,12 +74,14 @@ public final class ToldTest {
         BillTender x = new BillTender();
         x.term(0, 500);
         x.hold(3, 40);
-        x.own(1, 2);
+        x.hold(0, 7);
+        x.own(0, 2);
+        x.own(7, 2);
         x.bid(0, 5, 10);
         x.settle();
         x.bid(1, 5, 10);
         Check.due("4: lines ahead", x.count(2), 1);
-        Check.due("4: acts ahead", x.count(3), 6);
+        Check.due("4: acts ahead", x.count(3), 8);
         Check.due("4: text", Check.tell(x, "bid 7 999 lots 1000;plain 0 lots 1;days 1;"), 2);
         Check.due("4: all anew", Check.spelled(x),
             "offer 100;limit 35;share 20;yields 0 to 999;days 1;one;bid 7 999 lots 1000;plain 0 lots 1;");
@@ -135,6 +137,10 @@ public final class ToldTest {
     private static void words() {
         faultAt("Offer 7;", 0);
         faultAt("off 7;", 0);
+        faultAt("iffer 7;", 0);
+        faultAt("offex 7;", 0);
+        faultAt("onez;", 0);
+        faultAt("aone;", 0);
         faultAt("offers 7;", 0);
         faultAt("owne 0 1;", 0);
         faultAt("ownerx 0 1;", 0);

@@ -201,8 +201,11 @@ public final class WereTest {
         y.term(4, 77);
         Check.due("41: up to TO", y.yieldFor(0, 4), 77);
         BillTender z = Check.told("offer 4;limit 100;share 0;bid 0 5 lots 4;bid 1 0 lots 1;");
-        Check.due("41: down to 0", z.yieldFor(0, 3), 999);
+        Check.due("41: what is left", z.yieldFor(0, 3), 999);
         Check.due("41: but not all", z.yieldFor(0, 4), -2);
+        BillTender w = Check.told("offer 4;limit 100;share 0;bid 0 5 lots 4;bid 1 1 lots 4;");
+        Check.due("41: with the other at 1", w.yieldFor(0, 2), 1);
+        Check.due("41: the least YIELD", w.yieldFor(0, 3), 0);
     }
 
     private static void soldAllAt() {
