@@ -276,6 +276,11 @@ public final class AskedTest {
         Check.due("28: last now", x.ranked(5), 0);
         x.move(5, 0);
         Check.due("28: by numbers", x.ranked(0), 3);
+        BillTender y = Check.told("bid 0 9 lots 1;bid 1 8 lots 1;bid 2 7 lots 1;");
+        Check.due("28: of three", y.ranked(0), 2);
+        y.withdraw(0);
+        Check.due("28: of two", y.ranked(0), 1);
+        Check.due("28: of two", y.ranked(1), 0);
     }
 
     private static void fullAndCrowded() {

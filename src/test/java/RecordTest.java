@@ -139,6 +139,10 @@ public final class RecordTest {
         }
         Check.due("49: others", x.count(-1), -1);
         Check.due("49: others", x.count(LEAST), -1);
+        x.move(0, 6);
+        Check.due("49: WHY 1 still", x.count(5), 2);
+        x.withdraw(6);
+        Check.due("49: one fewer with WHY 1", x.count(5), 1);
         x.settle();
         Check.due("49: lines", x.count(2), 1);
         Check.due("49: no BIDS", x.count(0), 0);

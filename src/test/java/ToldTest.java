@@ -80,6 +80,7 @@ public final class ToldTest {
         x.bid(0, 5, 10);
         x.settle();
         x.bid(1, 5, 10);
+        x.pivot();
         Check.due("4: lines ahead", x.count(2), 1);
         Check.due("4: acts ahead", x.count(3), 8);
         Check.due("4: text", Check.tell(x, "bid 7 999 lots 1000;plain 0 lots 1;days 1;"), 2);
