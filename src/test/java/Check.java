@@ -1,28 +1,45 @@
 import java.nio.charset.StandardCharsets;
 import java.util.Arrays;
+import java.util.function.IntToLongFunction;
 
 /** What the tests share: counting wrong answers, and telling an object a TEXT. */
 final class Check {
     private static int wrong = 0;
+    private static int checks = 0;
+    private static String about = "";
 
     private Check() {
     }
 
+    /** What the checks from here on are for; it is told ahead of each wrong answer. */
+    static void about(String words) {
+        about = words + ": ";
+    }
+
+    static int checks() {
+        return checks;
+    }
+
     static void due(String call, long got, long want) {
-        if (got != want) {
-            wrong++;
-            System.out.println(call + " answered " + got + ", due is " + want);
-        }
+        due(call, Long.toString(got), Long.toString(want));
     }
 
     static void due(String call, boolean got, boolean want) {
-        due(call, got ? 1 : 0, want ? 1 : 0);
+        due(call, Boolean.toString(got), Boolean.toString(want));
     }
 
     static void due(String call, String got, String want) {
+        checks++;
         if (!got.equals(want)) {
             wrong++;
-            System.out.println(call + " answered " + got + ", due is " + want);
+            System.out.println(about + call + " answered " + got + ", due is " + want);
+        }
+    }
+
+    /** Several answers of one kind of call: f(0), f(1) .. */
+    static void row(String call, IntToLongFunction f, long... want) {
+        for (int i = 0; i < want.length; i++) {
+            due(call + " " + i, f.applyAsLong(i), want[i]);
         }
     }
 
@@ -79,5 +96,37 @@ final class Check {
             text.append((char) x.spell(i));
         }
         return text.toString();
+    }
+
+    /** All that a refused call must leave as it is, in some hundred calls (an object has no more than 512). */
+    static String state(BillTender x) {
+        StringBuilder all = new StringBuilder("TERMS");
+        for (int what = 0; what < 7; what++) {
+            all.append(' ').append(x.asTerm(what));
+        }
+        for (int h = 0; h < 8; h++) {
+            all.append("; HOUSE ").append(x.house(h, 0)).append(' ').append(x.house(h, 5));
+        }
+        for (int i = 0; i < x.count(0); i++) {
+            all.append("; BID ").append(x.of(i, 0)).append(' ').append(x.of(i, 1)).append(' ').append(x.of(i, 2));
+        }
+        for (int k = 0; k < x.count(2); k++) {
+            all.append("; line ").append(x.record(k, 0)).append(' ').append(x.record(k, 1)).append(' ').append(x.record(k, 2));
+            all.append(' ').append(x.recordPaid(k));
+        }
+        return all.append("; ACTS ").append(x.count(3)).append("; tape ").append(x.count(4)).toString();
+    }
+
+    /** A TEXT on a new object has its FAULT at a place, or none, if the place is below 0. */
+    static void fault(String text, int place) {
+        BillTender x = new BillTender();
+        int answer = tell(x, text);
+        due("text() of '" + text + "'", answer, place < 0 ? x.count(0) : -4 - place);
+    }
+
+    static void read(String... texts) {
+        for (String text : texts) {
+            fault(text, -1);
+        }
     }
 }
