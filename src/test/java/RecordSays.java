@@ -55,8 +55,20 @@ final class RecordSays {
         return x;
     }
 
+    /** STOPS, the latest first. */
+    private static BillTender stops(int... latestFirst) {
+        BillTender x = Check.told("limit 100;share 0;");
+        for (int k = latestFirst.length - 1; k >= 0; k--) {
+            x.bid(0, latestFirst[k] == -2 ? -1 : latestFirst[k], 1);
+            x.settle();
+        }
+        return x;
+    }
+
     private static void records() {
         BillTender x = three();
+        BillTender nothingOldest = stops(6, 4, 9, -2);
+        BillTender nothingBetween = stops(4, -2, 9, -2, 6);
         BillTender nine = nine();
         BillTender none = new BillTender();
         BillTender plain = Check.told("plain 0 lots 1;");
@@ -73,6 +85,8 @@ final class RecordSays {
         // 100 less 1, 4, 9, 16, 25, 36, 49, 64: 596 by 8.
         Check.due("eight lines", nine.records(1), 74);
         Check.due("STOP 0", zero.records(1), 0);
+        Check.due("6, 4, 9, -2", nothingOldest.records(1), 6);
+        Check.due("4, -2, 9, -2, 6", nothingBetween.records(1), 6);
         Doc.says("46", "-2: there is none),");
         Check.due("no lines", none.records(1), -2);
         Check.due("no STOP", plain.records(1), -2);
@@ -80,12 +94,16 @@ final class RecordSays {
         Check.due("of 11 and 4", x.records(2), 11);
         Check.due("eight lines", nine.records(2), 99);
         Check.due("STOP 0", zero.records(2), 0);
+        Check.due("6, 4, 9, -2", nothingOldest.records(2), 9);
+        Check.due("4, -2, 9, -2, 6", nothingBetween.records(2), 9);
         Check.due("no lines", none.records(2), -2);
         Check.due("no STOP", plain.records(2), -2);
         Doc.says("46", "3 the least one (-2: none).");
         Check.due("of 11 and 4", x.records(3), 4);
         Check.due("eight lines", nine.records(3), 36);
         Check.due("STOP 0", zero.records(3), 0);
+        Check.due("6, 4, 9, -2", nothingOldest.records(3), 4);
+        Check.due("4, -2, 9, -2, 6", nothingBetween.records(3), 4);
         Check.due("no lines", none.records(3), -2);
         Check.due("no STOP", plain.records(3), -2);
         Doc.says("46", "NONE for others.");

@@ -163,6 +163,10 @@ final class SoldSays {
         y.withdraw(0);
         y.change(0, 0, 1);
         bids(y, 5, 0);
+        y.term(2, 10);
+        bids(y, 5, 1);
+        y.term(2, 9);
+        bids(y, 5, 0);
         // A PART of PLAIN ones beside one at STOP: 3 of 20 is 1, rest 10, twice; 17 of 18 is 8, rest 9, twice.
         BillTender both = Check.told("offer 20;limit 100;share 15;plain 0 lots 10;plain 1 lots 10;bid 2 5 lots 9;bid 3 5 lots 9;");
         bids(both, 5, 2, 1, 9, 8);

@@ -82,8 +82,8 @@ final class TextsSays {
         Check.row("TERM", x::asTerm, 2, 4, 6, 7, 8, 10, 1);
         Check.row("HOLDS", h -> x.house(h, 0), 0, 4, 0, 0, 0, 0, 0, 0);
         Check.row("OWNER", h -> x.house(h, 5), 0, 4, 2, 3, 4, 5, 6, 7);
-        BillTender y = Check.told("own;bid 0 5 lots 1;one;");
-        Check.due("METHOD", y.asTerm(6), 0);
+        BillTender y = Check.told("own;bid 0 5 lots 1;yields 7 to 8;one;yields 800 to 900;");
+        Check.row("TERM", y::asTerm, 100, 35, 20, 800, 900, 90, 0);
         Doc.says("I", "BIDS as they stand.");
         BillTender z = Check.told("bid 0 5 lots 1;plain 0 lots 1;offer 50;bid 0 5 lots 1;bid 0 4 lots 2;");
         Check.row("YIELD", i -> z.of(i, 1), 5, -2, 5, 4, -1);

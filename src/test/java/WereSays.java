@@ -336,6 +336,12 @@ final class WereSays {
         Check.due("HOUSE 3", x.pivot(), 3);
         // Its PLAIN ones go, too: REST is 10 without HOUSE 7, and 6 at 1 aren't enough.
         Check.due("HOUSE 7", Check.told("offer 10;limit 100;share 40;bid 0 1 lots 6;plain 7 lots 4;bid 0 2 lots 1;").pivot(), 7);
+        // PLAIN ones of 0 to 6, which are SOLD nothing, take all ROOM of OWNER 0: without any of them the LOTS at 5 are enough,
+        // without 7 there is no STOP. So STOP, which is 9, falls without every HOUSE.
+        BillTender y = Check.told("offer 10;limit 100;share 0;owner 1 0;owner 2 0;owner 3 0;owner 4 0;owner 5 0;owner 6 0;plain 0 lots 4;plain 1 lots 1;"
+            + "plain 2 lots 1;plain 3 lots 1;plain 4 lots 1;plain 5 lots 1;plain 6 lots 1;bid 0 5 lots 10;bid 1 5 lots 10;bid 7 5 lots 9;bid 7 9 lots 1;");
+        Check.due("STOP", y.result(0), 9);
+        Check.due("the first of 0 to 6", y.pivot(), 0);
         Doc.says("44", "of several the first");
         Check.due("0, 1, 3", six().pivot(), 0);
         Check.due("1 and 2", Check.told("offer 10;limit 100;share 0;bid 0 9 lots 9;bid 1 5 lots 6;bid 2 5 lots 6;").pivot(), 1);
