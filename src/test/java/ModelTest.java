@@ -23,6 +23,7 @@ public final class ModelTest {
     private final StringBuilder log = new StringBuilder();
     // Narrow runs put many BIDS on few YIELDS and LOTS, so that PARTS and alike ones come about.
     private final boolean narrow;
+    private int calls = 0;
 
     private ModelTest(int seed) {
         random = new Random(seed);
@@ -38,10 +39,10 @@ public final class ModelTest {
 
     private void run(int seed) {
         int slow = seed % 4 == 0 ? 60 : 250;
-        for (int n = 0; n < CALLS; n++) {
+        while (calls < CALLS) {
             int dice = random.nextInt(slow);
             String call = dice == 0 ? pick(SLOW) : dice % 3 == 0 ? pick(ACTS) : pick(ASKED);
-            boolean tells = random.nextInt(40) == 0 || n == 0 && random.nextBoolean();
+            boolean tells = random.nextInt(40) == 0 || calls == 0 && random.nextBoolean();
             boolean alike = tells ? tellText() : both(call);
             if (!alike) {
                 System.out.println("seed " + seed + " behind:\n" + log + "with " + model.spelled());
@@ -65,6 +66,11 @@ public final class ModelTest {
     }
 
     private boolean same(String name, int... args) {
+        if (calls == CALLS) {
+            // What an object answers beyond these calls is free.
+            return true;
+        }
+        calls++;
         Class<?>[] types = new Class<?>[args.length];
         Object[] values = new Object[args.length];
         StringBuilder told = new StringBuilder(name);
