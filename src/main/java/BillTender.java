@@ -410,7 +410,8 @@ public final class BillTender {
             return NONE;
         }
         trial.copyFrom(book);
-        return tryTerm(term, v).figure(what);
+        trial.terms[term] = v;
+        return tried().figure(what);
     }
 
     public int limitFor(int house, int lots) {
@@ -623,6 +624,18 @@ public final class BillTender {
 
     private static boolean isLots(int lots) {
         return lots >= 1 && lots <= MOST_LOTS;
+    }
+
+    private static boolean isLetter(int sign) {
+        return sign >= 'a' && sign <= 'z';
+    }
+
+    private static boolean isDigit(int sign) {
+        return sign >= '0' && sign <= '9';
+    }
+
+    private static boolean isBlank(int sign) {
+        return sign == ' ' || sign == 10;
     }
 
     /** The sum of a row's first numbers, of those only that have the key at their place. */
@@ -1297,18 +1310,6 @@ public final class BillTender {
         private int at(int place) {
             return place >= 0 && place < length ? bytes[place] : NONE;
         }
-
-        private boolean hasLetter(int place) {
-            return at(place) >= 'a' && at(place) <= 'z';
-        }
-
-        private boolean hasDigit(int place) {
-            return at(place) >= '0' && at(place) <= '9';
-        }
-
-        private boolean hasBlank(int place) {
-            return at(place) == ' ' || at(place) == 10;
-        }
     }
 
     /** Reads a Tape as a TEXT into a Book; at the first FAULT it stops, and the Book is of no use. */
@@ -1418,7 +1419,7 @@ public final class BillTender {
             skipBlanks();
             int start = place;
             int value = 0;
-            while (place < tape.length && tape.hasDigit(place)) {
+            while (place < tape.length && isDigit(tape.at(place))) {
                 if (place - start < MOST_DIGITS) {
                     value = value * 10 + tape.at(place) - '0';
                 }
@@ -1440,7 +1441,7 @@ public final class BillTender {
             if (isGlued(place)) {
                 return;
             }
-            while (place < tape.length && tape.hasLetter(place)) {
+            while (place < tape.length && isLetter(tape.at(place))) {
                 place++;
             }
         }
@@ -1458,11 +1459,12 @@ public final class BillTender {
         }
 
         private boolean isGlued(int start) {
-            return tape.hasLetter(start - 1) || tape.hasDigit(start - 1);
+            int ahead = tape.at(start - 1);
+            return isLetter(ahead) || isDigit(ahead);
         }
 
         private void skipBlanks() {
-            while (place < tape.length && tape.hasBlank(place)) {
+            while (place < tape.length && isBlank(tape.at(place))) {
                 place++;
             }
         }

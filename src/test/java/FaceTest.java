@@ -13,14 +13,12 @@ import java.util.TreeSet;
 import java.util.regex.Matcher;
 import java.util.regex.Pattern;
 
-/** The public face as ../shared/DOC.md has it, and the rules of LANGUAGE.md that a look at the source can tell. */
+/** The public face as ../shared/DOC.md has it, and rule 1 of LANGUAGE.md; LanguageTest has the others. */
 public final class FaceTest {
-    private static final Path SOURCE = Path.of("src/main/java/BillTender.java");
     private static final Path DOC = Path.of("../shared/DOC.md");
 
     public static void main(String[] args) throws IOException {
         face();
-        language();
         Check.finish();
     }
 
@@ -60,22 +58,5 @@ public final class FaceTest {
         Check.due("constructors", made.length, 1);
         Check.due("constructor is public", Modifier.isPublic(made[0].getModifiers()), true);
         Check.due("class is final", Modifier.isFinal(BillTender.class.getModifiers()), true);
-    }
-
-    private static void language() throws IOException {
-        String source = Files.readString(SOURCE).replaceAll("(?s)/\\*.*?\\*/", "").replaceAll("//[^\\n]*", "");
-        String code = source.replaceAll("\"[^\"]*\"", "\"\"");
-        String[] refused = {"\\bthrow\\b", "\\btry\\b", "\\bcatch\\b", "\\bsynchronized\\b", "\\bassert\\b", "->", "::", "\\bimport\\b",
-            "\\bpackage\\b", "\\bthrows\\b", "Exact\\b", "\\bequals\\b", "\\bhashCode\\b", "\\btoString\\b", "\\bSystem\\b", "\\bvar\\b",
-            "\\bprotected\\b", "\\bdouble\\b", "\\bfloat\\b"};
-        for (String word : refused) {
-            Check.due("LANGUAGE: " + word, Pattern.compile(word).matcher(code).find(), false);
-        }
-        // Objects are made with the BillTender alone, so that no call adds to the room of a run.
-        Matcher made = Pattern.compile("^(.*)\\bnew\\b", Pattern.MULTILINE).matcher(code);
-        while (made.find()) {
-            boolean atStart = made.group(1).contains("private final") || made.group(1).trim().equals("kept[i] =");
-            Check.due("made at the start: " + made.group(1).trim(), atStart, true);
-        }
     }
 }
