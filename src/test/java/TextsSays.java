@@ -113,6 +113,14 @@ final class TextsSays {
         Check.fault("xffer 7;", 0);
         Check.fault("`ne;", 0);
         Check.fault("{ne;", 0);
+        // Other signs end a WORD: it stands, and they can't.
+        for (char sign : new char[] {'A', 'N', 'Z', '[', '_', '`', '{', '-', '/', ':', 0, 9, 127, 128, 225, 255}) {
+            Check.fault("one" + sign + ";", 3);
+            Check.fault("offer" + sign + " 7;", 5);
+            Check.fault("yields 3 to" + sign + " 7;", 11);
+            Check.fault("bid 0 5 lots" + sign + "7;", 12);
+            Check.fault("offer 7" + sign + ";", 7);
+        }
     }
 
     private static void numbers() {
